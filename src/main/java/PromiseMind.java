@@ -689,7 +689,7 @@ public final class PromiseMind {
 
         private int readItems() {
             int items = 0;
-            while (sign() >= 'a' && sign() < 'a' + ITEMS) {
+            while (at < size && sign() >= 'a' && sign() < 'a' + ITEMS) {
                 int item = 1 << (sign() - 'a');
                 if ((items & item) != 0) {
                     fault = at;
@@ -969,7 +969,7 @@ public final class PromiseMind {
         void lay(int shelf, int size) {
             if (!has(shelf)) return;
             sizes[shelf] = Math.min(size, ROW);
-            Arrays.fill(places, shelf * ROW, shelf * ROW + ROW, 0L);
+            for (int i = 0; i < ROW; i++) places[shelf * ROW + i] = 0L;
         }
 
         long read(int shelf, int i) {

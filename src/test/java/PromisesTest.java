@@ -19,6 +19,7 @@ public final class PromisesTest {
     late(); kept(); why(); ledger();
     row(); put(); get(); from(); lefts();
     undo(); undoOrders(); redo(); image(); back(); count();
+    fullHouse(); untouched();
     System.out.println(wrong == 0 ? "promises 1 to 34: all as due" : wrong + " answers are not as due");
     if (wrong != 0) System.exit(1);
   }
@@ -282,6 +283,11 @@ public final class PromisesTest {
     due("10 GONE ones stay GONE", y.promiseAll(), 1);
     due("10 GONE", y.of(0, 5), 2);
     due("10 new", new PromiseMind().promiseAll(), 0);
+    PromiseMind z = stocked("9c@2g1;1c@2g1;1a@9g2");
+    z.share(1, 25);
+    z.share(2, 0);
+    due("10 just the SHARE", z.promiseAll(), 2);
+    due("10 not 1 of none", z.of(2, 5), 0);
   }
 
   private static void giveUp() {
@@ -461,6 +467,11 @@ public final class PromisesTest {
     due("17 SHARE with those of its GROUP", x.could(0, 1), 1);
     due("17 EARLIEST by SHARE", x.could(0, 0), NOT);
     due("17 its own AMOUNT doesn't count in its SHARE", x.could(1, 1), 6);
+    x.share(0, 28);
+    due("17 EARLIEST by just the SHARE", x.could(0, 0), 3);
+    due("17 AS MUCH by just the SHARE", x.could(1, 1), 11);
+    x.share(0, 27);
+    due("17 EARLIEST by just not the SHARE", x.could(0, 0), NOT);
     x.share(0, 100);
     x.move(5, 0);
     x.supply(0, 0, 0);
@@ -550,6 +561,11 @@ public final class PromisesTest {
     due("19 and the other GROUP", y.filled(0), 5);
     y.share(1, 18);
     due("19 all", y.filled(1), 14);
+    PromiseMind z = stocked("1c@5g1;1c@5g2");
+    z.share(1, 0);
+    due("19 not 1 of none", z.filled(0), 2);
+    z.share(2, 2);
+    due("19 nor of less than 1", z.filled(0), 0);
   }
 
   private static void range() {
@@ -647,6 +663,10 @@ public final class PromisesTest {
     x.supply(2, 2, 7);
     due("22 the second now", x.kept(1), 2);
     due("22 the third now", x.kept(2), 4);
+    PromiseMind y = stocked("2a@9;2a@9r9;2a@9;2a@9r0;2a@9r9");
+    y.promiseAll();
+    int[] then = {1, 4, 0, 2, 3};
+    for (int i = 0; i < 5; i++) due("22 RANK that isn't told, kept(" + i + ")", y.kept(i), then[i]);
     due("22 none", new PromiseMind().kept(-1), 0);
     due("22 no first", new PromiseMind().kept(0), NOT);
   }
@@ -671,6 +691,15 @@ public final class PromisesTest {
     y.supply(0, 3, 0);
     due("23 two ITEMS, the higher RANK", y.why(0), 50500);
     due("23 it doesn't count one that isn't KEPT", y.why(1), 60000);
+    PromiseMind z = stocked("1a@1r9;9a@6r1;2a@11r1;2a@9r0");
+    z.promiseAll();
+    z.supply(0, 3, 4);
+    due("23 one ahead by RANK, two KEPT behind", z.why(1), 70000);
+    due("23 KEPT behind", z.why(2), STATE);
+    z = stocked("2a@9r1;9a@6r1;1a@11r1");
+    z.promiseAll();
+    z.supply(0, 3, 4);
+    due("23 one ahead by number, one KEPT behind", z.why(1), 100000);
   }
 
   private static void ledger() {
@@ -995,5 +1024,80 @@ public final class PromisesTest {
     due("34 what 9", x.count(9), BAD);
     due("34 what -1", x.count(-1), BAD);
     due("34 what low", x.count(LOW), BAD);
+  }
+
+  /** 24 ORDERS, all PROMISED: the last of them counts wherever any does. */
+  private static void fullHouse() {
+    PromiseMind x = new PromiseMind();
+    x.supply(1, 4, 99);
+    x.supply(2, 9, 36);
+    for (int i = 0; i < 6; i++) tell(x, "5b@4g1r7;5bc@9g2;5b@11g1;6c@10g3r9");
+    due("all are PROMISED", x.promiseAll(), 24);
+    due("7 one more", tell(x, "1a@0"), -100);
+    due("34 PROMISED", x.count(2), 24);
+    due("34 AMOUNTS", x.count(8), 126);
+    due("5 AMOUNTS", x.group(3, 2), 36);
+    due("15 LEFT", x.left(121212), 9);
+    due("15 LEFT of c", x.left(12), 0);
+    due("17 EARLIEST of the last", x.could(23, 0), 9);
+    due("17 AS MUCH of the last", x.could(23, 1), 6);
+    due("18 SPARE", x.spare(7, 11), 9);
+    due("19 FILLED", x.filled(0), 0);
+    due("20 all of it", x.range(23, 2, 9, 0), 6);
+    due("20 no other", x.range(22, 1, 4, 0), 5);
+    due("20 none of it", x.range(1, 2, 9, 1), 0);
+    due("22 KEPT", x.kept(-1), 24);
+    due("22 KEPT by RANK", x.kept(5), 23);
+    due("22 KEPT last", x.kept(23), 22);
+    due("22 no more", x.kept(24), NOT);
+    x.image();
+    x.supply(2, 9, 35);
+    due("21 one", x.late(), 1);
+    due("23 its STEP", x.why(23), 11);
+    dueText("24 the last", ledgerOf(x, 23), "23:6c@10g3r9 late");
+    x.supply(1, 4, 84);
+    due("21 one more", x.late(), 2);
+    due("23 its STEP, by all ahead of it", x.why(22), 1211);
+    due("11 the last", x.giveUp(23), 23);
+    due("16 the last", x.hinders(23, -1), 1211);
+    due("33 back", x.back(), 24);
+    due("33 the last", x.of(23, 5), 1);
+    x.gone(23);
+    due("30 undone", x.undo(), 0);
+    due("30 the last", x.of(23, 5), 1);
+    due("14 the last two", x.swap(22, 23), 1);
+    due("13 the last", x.move(23, 9), 11);
+  }
+
+  /** Calls that ask, and calls that are refused, change nothing. */
+  private static void untouched() {
+    PromiseMind x = ranked();
+    x.supply(2, 2, 10);
+    tell(x, "3ab@2g3;4c@2g1");
+    x.gone(3);
+    x.undo();
+    x.feed('6');
+    long before = sumOf(x);
+    for (int i = -2; i < 8; i++) {
+      x.supplied(i, i); x.group(i, i); x.of(i, i); x.left(i * 10101); x.hinders(i, -1); x.could(i, 0); x.could(i, 1);
+      x.spare(i, i); x.filled(i); x.range(i, 2, 2, 0); x.range(i, 2, 2, 1); x.kept(i); x.why(i); x.ledger(i, i); x.get(0, i);
+      x.count(i); x.late();
+      x.supply(3, i, i); x.supply(0, 0, 100 + i * i); x.share(4, i); x.promise(0); x.promise(-1); x.giveUp(6); x.gone(9);
+      x.move(1, 0); x.move(i, 12); x.swap(0, 0); x.swap(5, 6); x.put(0, i, i); x.from(0, i, 0, 0); x.lefts(0, i); x.back();
+      x.feed(5); x.row(0, -1); x.row(0, 25);
+    }
+    due("nothing is changed", sumOf(x), before);
+    due("DONE AGAIN", x.redo(), 0);
+  }
+
+  /** Many answers as one number. */
+  private static long sumOf(PromiseMind x) {
+    long sum = 0;
+    for (int what = 0; what < 9; what++) sum = sum * 31 + x.count(what);
+    for (int i = 0; i < 36; i++) sum = sum * 31 + x.supplied(i / 12, i % 12);
+    for (int g = 0; g < 4; g++) sum = sum * 31 + x.group(g, 0);
+    for (int o = 0; o < x.count(0); o++) for (int what = 0; what < 7; what++) sum = sum * 31 + x.of(o, what);
+    for (int shelf = 0; shelf < 4; shelf++) sum = sum * 31 + x.get(shelf, 0);
+    return sum;
   }
 }
