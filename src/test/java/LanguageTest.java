@@ -22,9 +22,21 @@ public final class LanguageTest {
       "why(I)I", "ledger(II)I", "row(II)I", "put(IIJ)I", "get(II)J", "from(IIII)I", "lefts(II)I", "undo()I", "redo()I",
       "image()I", "back()I", "count(I)I"};
 
+  private static final long[] ARGUMENTS = {Integer.MIN_VALUE, Integer.MIN_VALUE + 1, -10001, -101, -25, -13, -12, -2, -1, 0, 1,
+      2, 3, 4, 5, 6, 7, 8, 9, 10, 11, 12, 13, 23, 24, 25, 30, 31, 32, 33, 35, 59, 60, 61, 97, 98, 99, 100, 101, 126, 127, 128,
+      10000, 120000, 121211, 121212, 121213, 130000, 1 << 16, Integer.MAX_VALUE - 12, Integer.MAX_VALUE - 1, Integer.MAX_VALUE};
+
+  private static final String[] TEXTS = {"6ab@4g1r2", ";", "5a@11;3bc@7r9", "1c@0", "60abc@11g3", "9b", "@", "x", "0a@1"};
+
+  /** These would lay all back too often. */
+  private static final List<String> SWEEPING = List.of("undo", "back", "gone", "image", "share", "giveUp", "feed");
+
+  private static long seed = 77;
+
   public static void main(String[] args) throws IOException {
     face();
     nested();
+    for (int run = 0; run < 40; run++) calls();
     String text = Files.readString(Path.of("src/main/java/PromiseMind.java"));
     words(text);
     methods(text);
@@ -36,6 +48,41 @@ public final class LanguageTest {
     if (fine) return;
     wrong++;
     System.out.println(what);
+  }
+
+  private static int any(int bound) {
+    seed = seed * 6364136223846793005L + 1442695040888963407L;
+    return (int) ((seed >>> 33) % bound);
+  }
+
+  /** Rule 7, rule 13: far more than 512 calls with any arguments, to two objects in step: none throws, all answer alike. */
+  private static void calls() {
+    PromiseMind mind = new PromiseMind();
+    PromiseMind twin = new PromiseMind();
+    Method[] all = PromiseMind.class.getDeclaredMethods();
+    Arrays.sort(all, (x, y) -> x.getName().compareTo(y.getName()));
+    for (int i = 0; i < 5000; i++) {
+      Method m = all[any(all.length)];
+      if (!Modifier.isPublic(m.getModifiers()) || (SWEEPING.contains(m.getName()) && any(8) != 0)) continue;
+      if (m.getName().equals("orders")) {
+        check(mind.orders() == twin.orders(), "rule 13: orders");
+        for (char c : TEXTS[any(TEXTS.length)].toCharArray()) check(mind.feed(c) == twin.feed(c), "rule 13: feed");
+      }
+      int item = any(3), period = any(12), n = any(20);
+      check(any(3) != 0 || mind.supply(item, period, n) == twin.supply(item, period, n), "rule 13: supply");
+      Object[] args = new Object[m.getParameterCount()];
+      for (int k = 0; k < args.length; k++) {
+        long v = any(4) == 0 ? ARGUMENTS[any(ARGUMENTS.length)] : any(any(2) == 0 ? 3 : 12);
+        if (m.getParameterTypes()[k] == long.class) args[k] = any(20) == 0 ? Long.MAX_VALUE - v : v;
+        else args[k] = (int) v;
+      }
+      try {
+        check(m.invoke(mind, args).equals(m.invoke(twin, args)), "rule 13: " + m.getName() + Arrays.toString(args));
+      } catch (ReflectiveOperationException e) {
+        check(false, "rule 7: " + m.getName() + Arrays.toString(args) + " threw " + e.getCause());
+        return;
+      }
+    }
   }
 
   private static String sign(Class<?> type) {
