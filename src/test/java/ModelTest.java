@@ -11,8 +11,18 @@ public final class ModelTest {
   public static void main(String[] args) {
     int runs = args.length > 0 ? Integer.parseInt(args[0]) : 400;
     for (int run = 0; run < runs && wrong == 0; run++) new Run(run).go();
+    for (String begin : new String[] {"", "1a@", "6c@3g2;60"}) texts(begin, 4);
     System.out.println(wrong == 0 ? calls + " answers are as the model's" : wrong + " answers are not as the model's");
     if (wrong != 0) System.exit(1);
+  }
+
+  private static final String[] PIECES = {"0", "7", "11", "61", "a", "cb", "@", "g", "g3", "g4", "r", "r9", ";", "x"};
+
+  /** All texts that go on with a few pieces; each comes to an object of its own. */
+  private static void texts(String begin, int more) {
+    if (wrong != 0) return;
+    new Run(0).tell(begin);
+    for (int k = 0; k < PIECES.length && more > 0; k++) texts(begin + PIECES[k], more - 1);
   }
 
   /** One object, one model, the same calls to both. */
@@ -94,6 +104,14 @@ public final class ModelTest {
       }
       feed(s.toString());
       same("orders() \"" + s + "\"", mind.orders(), model.orders());
+    }
+
+    void tell(String text) {
+      feed(text);
+      same("orders() \"" + text + "\"", mind.orders(), model.orders());
+      for (int o = 0; o < model.orders.size(); o++) {
+        for (int what = 0; what < 5; what++) same("of(" + o + ", " + what + ")", mind.of(o, what), model.of(o, what));
+      }
     }
 
     void go() {
